@@ -480,37 +480,47 @@ public final class ScriptLanguage {
         private final int length;
         private final int[] types;
         private final int[] starts;
+        private final long[] values;
+        private final int[] decimals;
         int count;
         private int current;
+        private int scannedType;
+        private long scannedValue;
+        private int scannedDecimals;
 
         Tokens(byte[] text, int length) {
             this.text = text;
             this.length = Math.max(0, Math.min(length, text.length));
-            types = new int[this.length + 1];
-            starts = new int[this.length + 1];
+            // Each token has a byte of its own, and the end is one more.
+            int room = this.length + 1;
+            types = new int[room];
+            starts = new int[room];
+            values = new long[room];
+            decimals = new int[room];
         }
 
         void scan() {
             int from = 0;
             boolean more = true;
-            for (int n = 0; n <= length && more; n++) {
+            for (int n = 0; n < types.length && more; n++) {
                 from = skipBlanks(from);
-                int width = widthAt(from);
-                int type = typeOf(from, width);
-                types[n] = type;
+                int width = scanToken(from);
+                types[n] = scannedType;
                 starts[n] = from;
+                values[n] = scannedValue;
+                decimals[n] = scannedDecimals;
                 count = n + 1;
                 from += width;
-                more = type != T_END && type != T_WRONG;
+                more = scannedType != T_END && scannedType != T_WRONG;
             }
         }
 
         int type() {
-            return current >= 0 && current < count && current < types.length ? types[current] : T_END;
+            return isInside(current) ? types[current] : T_END;
         }
 
         int start() {
-            return current >= 0 && current < count && current < starts.length ? starts[current] : length;
+            return isInside(current) ? starts[current] : length;
         }
 
         void advance() {
@@ -519,39 +529,24 @@ public final class ScriptLanguage {
             }
         }
 
-        long nameHere() {
-            int from = start();
-            return packName(from, nameWidth(from));
+        /** A whole, the byte of a column, or a name packed into one number. */
+        long value() {
+            return isInside(current) ? values[current] : 0L;
         }
 
-        int columnHere() {
-            return byteAt(start());
-        }
-
-        int wholeHere() {
-            int from = start();
-            int number = 0;
-            for (int i = 0; i < WHOLE_DIGITS && isDigit(byteAt(from + i)); i++) {
-                number = number * 10 + (byteAt(from + i) - '0');
+        double realValue() {
+            if (!isInside(current)) {
+                return 0.0;
             }
-            return number;
-        }
-
-        double realHere() {
-            int from = start();
-            int before = digitsFrom(from, WHOLE_DIGITS);
-            int behind = digitsFrom(from + before + 1, POINT_DIGITS);
-            long digits = 0;
-            for (int i = 0; i < before + 1 + behind; i++) {
-                if (i != before) {
-                    digits = digits * 10 + (byteAt(from + i) - '0');
-                }
-            }
-            double number = (double) digits;
-            for (int i = 0; i < behind; i++) {
+            double number = (double) values[current];
+            for (int i = 0; i < decimals[current]; i++) {
                 number = number / 10.0;
             }
             return number;
+        }
+
+        private boolean isInside(int i) {
+            return i >= 0 && i < count && i < types.length;
         }
 
         private int byteAt(int i) {
@@ -566,40 +561,50 @@ public final class ScriptLanguage {
             return i;
         }
 
-        private int widthAt(int from) {
+        private int scanToken(int from) {
             int first = byteAt(from);
             if (isDigit(first)) {
-                int before = digitsFrom(from, WHOLE_DIGITS);
-                if (byteAt(from + before) == '.' && isDigit(byteAt(from + before + 1))) {
-                    return before + 1 + digitsFrom(from + before + 1, POINT_DIGITS);
-                }
-                return before;
-            }
-            return isSmallLetter(first) ? nameWidth(from) : 1;
-        }
-
-        private int typeOf(int from, int width) {
-            int first = byteAt(from);
-            if (first < 0) {
-                return T_END;
-            }
-            if (isDigit(first)) {
-                return width == digitsFrom(from, WHOLE_DIGITS) ? T_WHOLE : T_REAL;
+                return scanNumber(from);
             }
             if (isSmallLetter(first)) {
-                return wordOrName(packName(from, width));
+                return scanName(from);
             }
-            if (first >= 'A' && first <= 'Z') {
-                return T_COLUMN;
+            scannedValue = first;
+            if (first < 0) {
+                scannedType = T_END;
+            } else if (first >= 'A' && first <= 'Z') {
+                scannedType = T_COLUMN;
+            } else {
+                scannedType = SIGNS.indexOf((char) first) >= 0 ? first : T_WRONG;
             }
-            return SIGNS.indexOf((char) first) >= 0 ? first : T_WRONG;
+            return 1;
         }
 
-        private int nameWidth(int from) {
+        private int scanNumber(int from) {
+            int before = digitsFrom(from, WHOLE_DIGITS);
+            int point = from + before;
+            int behind = byteAt(point) == '.' ? digitsFrom(point + 1, POINT_DIGITS) : 0;
+            int width = behind == 0 ? before : before + 1 + behind;
+            scannedType = behind == 0 ? T_WHOLE : T_REAL;
+            scannedDecimals = behind;
+            scannedValue = 0;
+            for (int i = from; i < from + width; i++) {
+                if (i != point) {
+                    scannedValue = scannedValue * 10 + (byteAt(i) - '0');
+                }
+            }
+            return width;
+        }
+
+        // Eight bytes at most are just one long, so names need no texts of their own.
+        private int scanName(int from) {
             int width = 0;
+            scannedValue = 0;
             while (width < NAME_ROOM && (isSmallLetter(byteAt(from + width)) || isDigit(byteAt(from + width)))) {
+                scannedValue = scannedValue << 8 | byteAt(from + width);
                 width++;
             }
+            scannedType = wordOrName(scannedValue);
             return width;
         }
 
@@ -609,15 +614,6 @@ public final class ScriptLanguage {
                 n++;
             }
             return n;
-        }
-
-        // Eight bytes at most are just one long, so names need no texts of their own.
-        private long packName(int from, int width) {
-            long name = 0;
-            for (int i = 0; i < width; i++) {
-                name = name << 8 | byteAt(from + i);
-            }
-            return name;
         }
 
         private static int wordOrName(long name) {
@@ -691,6 +687,10 @@ public final class ScriptLanguage {
             }
         }
 
+        boolean has(int i) {
+            return i >= 0 && i < count && i < ops.length;
+        }
+
         double realOf(int i) {
             return i >= 0 && i < reals.length ? reals[i] : 0.0;
         }
@@ -762,22 +762,18 @@ public final class ScriptLanguage {
             }
         }
 
-        private void breakOff() {
-            throw new IllegalStateException("no text goes on with this token");
-        }
-
         private void need(int type) {
             if (tokens.type() != type) {
-                breakOff();
+                throw new IllegalStateException("another token is wanted");
             }
             tokens.advance();
         }
 
         private void open(int type) {
-            if (nest >= NEST_ROOM) {
-                breakOff();
+            if (nest >= NEST_ROOM || tokens.type() != type) {
+                throw new IllegalStateException("another token is wanted, or too many are in each other");
             }
-            need(type);
+            tokens.advance();
             nest++;
         }
 
@@ -846,7 +842,7 @@ public final class ScriptLanguage {
         private void readLet() {
             tokens.advance();
             int start = tokens.start();
-            long name = tokens.nameHere();
+            long name = tokens.value();
             need(T_NAME);
             if (scope.find(name) >= 0 || scope.isFull()) {
                 noteFault(LET_FAULT, start);
@@ -955,7 +951,7 @@ public final class ScriptLanguage {
 
         private int findHolder() {
             boolean isColumn = tokens.type() == T_COLUMN;
-            int number = isColumn ? columns.find(tokens.columnHere()) : scope.find(tokens.nameHere());
+            int number = isColumn ? columns.find((int) tokens.value()) : scope.find(tokens.value());
             if (number < 0) {
                 noteFault(NAME_FAULT, tokens.start());
             }
@@ -971,7 +967,7 @@ public final class ScriptLanguage {
             int most = level == 0 ? 1 : SIGN_ROOM + 1;
             for (int n = 0; n < most && levelOf(tokens.type()) == level; n++) {
                 if (signCount >= SIGN_ROOM) {
-                    breakOff();
+                    throw new IllegalStateException("too many signs in a stat");
                 }
                 signCount++;
                 int sign = tokens.type();
@@ -1017,11 +1013,11 @@ public final class ScriptLanguage {
             int start = tokens.start();
             switch (tokens.type()) {
                 case T_WHOLE:
-                    code.emit(OP_WHOLE, tokens.wholeHere(), start);
+                    code.emit(OP_WHOLE, (int) tokens.value(), start);
                     tokens.advance();
                     return WHOLE;
                 case T_REAL:
-                    code.emitReal(tokens.realHere(), start);
+                    code.emitReal(tokens.realValue(), start);
                     tokens.advance();
                     return REAL;
                 case T_NAME:
@@ -1038,8 +1034,7 @@ public final class ScriptLanguage {
                 case W_ASROW:
                     return readWord();
                 default:
-                    breakOff();
-                    return MISFIT;
+                    throw new IllegalStateException("no exp begins with this token");
             }
         }
 
@@ -1190,22 +1185,24 @@ public final class ScriptLanguage {
         }
 
         int work(Code script, Cells allCells, Columns allColumns, int ofObject, int steps, boolean zeroForMissing) {
-            forget();
             code = script;
             cells = allCells;
             columns = allColumns;
             object = ofObject;
             stepsAllowed = steps;
             missingIsZero = zeroForMissing;
-            next = 0;
-            top = 0;
-            repeats = 0;
-            outcome = GOING;
-            cells.sweepRows();
-            journal.begin(cells, object);
+            begin();
             // Each stat and each round takes a step, so 400 steps end long before this bound.
             for (int n = 0; n < 1000000 && outcome == GOING; n++) {
-                doNext();
+                int i = next;
+                next = i + 1;
+                if (!code.has(i)) {
+                    outcome = ENDED;
+                } else if (code.ops[i] >= OP_PUT_LOCAL) {
+                    doOfStat(code.ops[i], code.args[i], code.places[i]);
+                } else {
+                    doOfExp(code.ops[i], code.args[i], code.places[i]);
+                }
             }
             if (outcome < 0) {
                 journal.takeBack(cells, object);
@@ -1213,19 +1210,14 @@ public final class ScriptLanguage {
             return outcome;
         }
 
-        private void doNext() {
-            int i = next;
-            if (i < 0 || i >= code.count || i >= code.ops.length) {
-                outcome = ENDED;
-                return;
-            }
-            next = i + 1;
-            int op = code.ops[i];
-            if (op >= OP_PUT_LOCAL) {
-                doOfStat(op, code.args[i], code.places[i]);
-            } else {
-                doOfExp(op, code.args[i], code.places[i]);
-            }
+        private void begin() {
+            forget();
+            next = 0;
+            top = 0;
+            repeats = 0;
+            outcome = GOING;
+            cells.sweepRows();
+            journal.begin(cells, object);
         }
 
         private void doOfExp(int op, int arg, int place) {
@@ -1496,8 +1488,16 @@ public final class ScriptLanguage {
                 left.setWhole(numbers && x == y ? 1 : 0);
             } else if (!numbers || givesNoNumber(sign, x, y)) {
                 left.setNoNumber();
+            } else if (sign == '+') {
+                left.setReal(x + y);
+            } else if (sign == '-') {
+                left.setReal(x - y);
+            } else if (sign == '*') {
+                left.setReal(x * y);
+            } else if (sign == '/') {
+                left.setReal(x / y);
             } else {
-                left.setReal(reckon(sign, x, y));
+                left.setReal(remainder(x, y));
             }
         }
 
@@ -1513,21 +1513,6 @@ public final class ScriptLanguage {
                     return isEndless(x) && isEndless(y) || x == 0.0 && y == 0.0;
                 default:
                     return isEndless(x) || y == 0.0;
-            }
-        }
-
-        private static double reckon(int sign, double x, double y) {
-            switch (sign) {
-                case '+':
-                    return x + y;
-                case '-':
-                    return x - y;
-                case '*':
-                    return x * y;
-                case '/':
-                    return x / y;
-                default:
-                    return remainder(x, y);
             }
         }
 
