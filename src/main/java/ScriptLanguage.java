@@ -39,7 +39,7 @@ public final class ScriptLanguage {
 
     private final byte[] tape = new byte[TAPE_ROOM];
     private int tapeLength;
-    private final Columns columns = new Columns();
+    private final Holders columns = new Holders(COLUMN_ROOM);
     private final Cells cells = new Cells();
     private final Machine machine = new Machine();
     private Code script;
@@ -78,7 +78,7 @@ public final class ScriptLanguage {
         if (columns.find(name) >= 0) {
             return STATE;
         }
-        if (columns.count >= COLUMN_ROOM) {
+        if (columns.isFull()) {
             return ROOM;
         }
         script = null;
@@ -330,7 +330,7 @@ public final class ScriptLanguage {
         }
     }
 
-    /** The cells of all objects, and all rows: one that no cell holds is used again, so that runs do not fill the room. */
+    /** The cells of all objects, and all rows: one that no cell holds is used again, lest runs fill the room. */
     private static final class Cells {
         private final Slot[] slots = newSlots(OBJECT_ROOM * COLUMN_ROOM);
         private final ArrayList<Row> rows = new ArrayList<>();
@@ -390,7 +390,7 @@ public final class ScriptLanguage {
         int kind = MISSING;
         int whole;
         double real;
-        // A real that is no number is told by this alone: the doubles themselves are always numbers.
+        // A real that is no number has this mark, and is 0.0 beside it, as it is told: no double here is ever none.
         boolean noNumber;
         Row row;
 
@@ -431,22 +431,34 @@ public final class ScriptLanguage {
         }
 
         int cutReal() {
-            return noNumber ? 0 : (int) real;
+            return (int) real;
         }
 
         double toldReal() {
-            return kind == REAL && !noNumber ? real : 0.0;
+            return kind == REAL ? real : 0.0;
         }
     }
 
-    private static final class Columns {
-        private final int[] names = new int[COLUMN_ROOM];
-        private final int[] kinds = new int[COLUMN_ROOM];
-        private final boolean[] writables = new boolean[COLUMN_ROOM];
+    /** What bears a name and holds a value: the columns, or the locals that are seen where the reader is. */
+    private static final class Holders {
+        private final long[] names;
+        private final int[] kinds;
+        private final boolean[] writables;
         int count;
 
-        int find(int name) {
-            for (int i = 0; i < count && i < COLUMN_ROOM; i++) {
+        Holders(int room) {
+            int most = Math.max(1, room);
+            names = new long[most];
+            kinds = new int[most];
+            writables = new boolean[most];
+        }
+
+        boolean isFull() {
+            return count >= names.length;
+        }
+
+        int find(long name) {
+            for (int i = 0; i < count && i < names.length; i++) {
                 if (names[i] == name) {
                     return i;
                 }
@@ -454,9 +466,9 @@ public final class ScriptLanguage {
             return -1;
         }
 
-        int add(int name, int kind, boolean writable) {
+        int add(long name, int kind, boolean writable) {
             int number = count;
-            if (number >= 0 && number < COLUMN_ROOM) {
+            if (number >= 0 && number < names.length) {
                 names[number] = name;
                 kinds[number] = kind;
                 writables[number] = writable;
@@ -466,15 +478,15 @@ public final class ScriptLanguage {
         }
 
         int kindOf(int i) {
-            return i >= 0 && i < count && i < COLUMN_ROOM ? kinds[i] : MISFIT;
+            return i >= 0 && i < count && i < kinds.length ? kinds[i] : MISFIT;
         }
 
         boolean isWritable(int i) {
-            return i >= 0 && i < count && i < COLUMN_ROOM && writables[i];
+            return i >= 0 && i < count && i < writables.length && writables[i];
         }
     }
 
-    /** The tokens of a text, the longest that there are; behind the last one, or a byte that begins none, comes no more. */
+    /** The tokens of a text, the longest that there are; behind the end, or a byte that begins none, comes no more. */
     private static final class Tokens {
         private final byte[] text;
         private final int length;
@@ -696,48 +708,14 @@ public final class ScriptLanguage {
         }
     }
 
-    /** The locals that are seen where the reader is. */
-    private static final class Scope {
-        private final long[] names = new long[LOCAL_ROOM];
-        private final int[] kinds = new int[LOCAL_ROOM];
-        int count;
-
-        boolean isFull() {
-            return count >= LOCAL_ROOM;
-        }
-
-        int find(long name) {
-            for (int i = 0; i < count && i < LOCAL_ROOM; i++) {
-                if (names[i] == name) {
-                    return i;
-                }
-            }
-            return -1;
-        }
-
-        int add(long name, int kind) {
-            int number = count;
-            if (number >= 0 && number < LOCAL_ROOM) {
-                names[number] = name;
-                kinds[number] = kind;
-                count = number + 1;
-            }
-            return number;
-        }
-
-        int kindOf(int i) {
-            return i >= 0 && i < count && i < LOCAL_ROOM ? kinds[i] : MISFIT;
-        }
-    }
-
     /**
-     * Reads a text once from the left, asks its kinds and writes its code. A text fault ends the reading at once; of the
-     * other faults the one at the least place is kept, and an exp that has one is a MISFIT, which fits everywhere.
+     * Reads a text once from the left, asks its kinds and writes its code. A text fault ends the reading at once; of
+     * the other faults the one at the least place is kept, and an exp that has one is a MISFIT: it fits everywhere.
      */
     private static final class Reader {
         private final Tokens tokens;
-        private final Columns columns;
-        private final Scope scope = new Scope();
+        private final Holders columns;
+        private final Holders locals = new Holders(LOCAL_ROOM);
         final Code code;
         private int nest;
         private int signCount;
@@ -745,7 +723,7 @@ public final class ScriptLanguage {
         int faultNumber;
         int faultPlace = NONE;
 
-        Reader(byte[] text, int length, Columns columns) {
+        Reader(byte[] text, int length, Holders columns) {
             tokens = new Tokens(text, length);
             code = new Code(length);
             this.columns = columns;
@@ -844,13 +822,13 @@ public final class ScriptLanguage {
             int start = tokens.start();
             long name = tokens.value();
             need(T_NAME);
-            if (scope.find(name) >= 0 || scope.isFull()) {
+            if (locals.find(name) >= 0 || locals.isFull()) {
                 noteFault(LET_FAULT, start);
             }
             need('=');
             int kind = readExp(0);
             need(';');
-            code.emit(OP_PUT_LOCAL, scope.add(name, kind), start);
+            code.emit(OP_PUT_LOCAL, locals.add(name, kind, true), start);
         }
 
         private void readIf() {
@@ -900,19 +878,20 @@ public final class ScriptLanguage {
         }
 
         private void readBlock() {
-            int seen = scope.count;
+            int seen = locals.count;
             open('{');
             readStats();
             close('}');
-            scope.count = seen;
+            locals.count = seen;
         }
 
         private void readPut() {
             boolean isColumn = tokens.type() == T_COLUMN;
+            Holders holders = isColumn ? columns : locals;
             int start = tokens.start();
-            int number = findHolder();
-            int kind = isColumn ? columns.kindOf(number) : scope.kindOf(number);
-            if (isColumn && number >= 0 && !columns.isWritable(number)) {
+            int number = findHolder(holders);
+            int kind = holders.kindOf(number);
+            if (number >= 0 && !holders.isWritable(number)) {
                 noteFault(WRITE_FAULT, start);
             }
             tokens.advance();
@@ -949,9 +928,8 @@ public final class ScriptLanguage {
             return holderKind == MISFIT || kind == MISFIT ? MISFIT : WHOLE;
         }
 
-        private int findHolder() {
-            boolean isColumn = tokens.type() == T_COLUMN;
-            int number = isColumn ? columns.find((int) tokens.value()) : scope.find(tokens.value());
+        private int findHolder(Holders holders) {
+            int number = holders.find(tokens.value());
             if (number < 0) {
                 noteFault(NAME_FAULT, tokens.start());
             }
@@ -1040,8 +1018,9 @@ public final class ScriptLanguage {
 
         private int readHolder() {
             boolean isColumn = tokens.type() == T_COLUMN;
-            int number = findHolder();
-            int kind = isColumn ? columns.kindOf(number) : scope.kindOf(number);
+            Holders holders = isColumn ? columns : locals;
+            int number = findHolder(holders);
+            int kind = holders.kindOf(number);
             code.emit(isColumn ? OP_COLUMN : OP_LOCAL, number, tokens.start());
             tokens.advance();
             if (tokens.type() != '[') {
@@ -1158,7 +1137,7 @@ public final class ScriptLanguage {
         }
     }
 
-    /** Works code off over one object, with a stack of values; kinds have been asked, so only what can FAIL is asked here. */
+    /** Works code off over one object, with a stack of values. The kinds fit by then: only what can FAIL is asked. */
     private static final class Machine {
         private final Journal journal = new Journal();
         private final Slot[] stack = newSlots(STACK_ROOM);
@@ -1166,7 +1145,7 @@ public final class ScriptLanguage {
         private final int[] roundsLeft = new int[NEST_ROOM];
         private Code code;
         private Cells cells;
-        private Columns columns;
+        private Holders columns;
         private int object;
         private int stepsAllowed;
         private boolean missingIsZero;
@@ -1184,7 +1163,7 @@ public final class ScriptLanguage {
             given.setMissing();
         }
 
-        int work(Code script, Cells allCells, Columns allColumns, int ofObject, int steps, boolean zeroForMissing) {
+        int work(Code script, Cells allCells, Holders allColumns, int ofObject, int steps, boolean zeroForMissing) {
             code = script;
             cells = allCells;
             columns = allColumns;
@@ -1525,7 +1504,7 @@ public final class ScriptLanguage {
         private static double remainder(double x, double y) {
             double rest = x < 0.0 ? -x : x;
             double divisor = y < 0.0 ? -y : y;
-            if (isEndless(divisor) || rest < divisor) {
+            if (rest < divisor) {
                 return x;
             }
             double times = divisor;
