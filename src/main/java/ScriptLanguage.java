@@ -326,7 +326,6 @@ public final class ScriptLanguage {
         void makeNew(int newSize) {
             Arrays.fill(items, 0);
             size = newSize;
-            held = false;
         }
     }
 

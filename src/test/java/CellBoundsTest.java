@@ -22,6 +22,7 @@ public final class CellBoundsTest {
         test.rowInOtherKinds();
         test.places();
         test.putInNoRow();
+        test.putWhereARowWas();
         test.missing();
         test.holds();
         test.wholes();
@@ -240,6 +241,21 @@ public final class CellBoundsTest {
                 due.is("cellPut() where a ROW was", x.cellPut(0, c, 0, 1), STATE);
                 due.is("at() where a ROW was", x.at(0, c, 0), STATE);
             }
+        }
+    }
+
+    private void putWhereARowWas() {
+        due.sentence("cellPut, at: STATE: it holds none (any more)");
+        String[] texts = {"let r=C;D=7;", "let r=C;D=2.5;", "let r=C;D=A;", "let r=C;D=B;", "let r=C;let d=H;D=d;", "D=C;D=1.5+1.5;", "D=C;D=-1;",
+            "D=C;D=C[0];", "D=C;D=size(C);", "D=C;D=real(1);", "D=row(2);D=0.0/0.0;"};
+        for (String text : texts) {
+            ScriptLanguage x = Stage.set();
+            due.is("read() of " + text, Texts.read(x, text) < 0 ? x.fault(1) : NONE, NONE);
+            due.is("run() of " + text, x.run(0, 99), 0);
+            due.is("at() behind " + text, x.at(0, 3, 0), STATE);
+            due.is("cellPut() behind " + text, x.cellPut(0, 3, 0, 1), STATE);
+            due.is("same() behind " + text, x.same(0, 2, 0, 3), 0);
+            due.is("same() of it and itself", x.same(0, 3, 0, 3), 0);
         }
     }
 

@@ -31,6 +31,8 @@ public final class FailBoundsTest {
         test.spentAnywhere();
         test.manyChanges();
         test.earlierRunsStay();
+        test.earlierChangesStay();
+        test.nothingIsLeft();
         test.localsAreNew();
         test.due.close();
     }
@@ -412,6 +414,47 @@ public final class FailBoundsTest {
         on.x.cell(0, 0, 9);
         due.is("run() behind it", on.x.run(0, 99), 0);
         due.is("at()", on.x.at(0, 2, 0), 4);
+    }
+
+    private void earlierChangesStay() {
+        due.sentence("as they were (what a RUN before it changed more of is not taken back)");
+        String[] before = {"C[0]=1;C[1]=2;C[2]=3;C[0]=4;C[1]=5;", "let r=C;repeat 50{r[2]=r[2]+1;}C[1]=6;", "C=row(3);C[0]=1;C[0]=2;D=C;C[2]=8;"};
+        String[] fails = {"A=1/0;", "C[0]=9;A=1/0;", "C[2]=9;C[2]=8;A=1/0;", "D=row(2);C[1]=9;C=row(1);A=1/0;"};
+        for (String first : before) {
+            for (String second : fails) {
+                Probe.Calls one = x -> {
+                    set(x, first);
+                    x.run(0, 400);
+                    Texts.read(x, second);
+                };
+                Probe.Calls both = x -> {
+                    one.on(x);
+                    x.run(0, 400);
+                };
+                due.is("run() of " + second, Probe.made(one).run(0, 400), -2);
+                due.isText("all CELLS behind " + first + " and " + second, Probe.cells(both), Probe.cells(one));
+            }
+        }
+    }
+
+    /** A run that breaks off, often, where much is still open, leaves nothing of that to later runs. */
+    private void nothingIsLeft() {
+        due.sentence("A RUN (has nothing of another RUN, however that ended)");
+        String open = Texts.times("1+(", 20);
+        String close = Texts.times(")", 20);
+        String repeats = Texts.times("repeat 2{", 18);
+        String braces = Texts.times("}", 18);
+        String[] texts = {"A=" + open + "1/0" + close + ";", "A=" + open + "E" + close + ";", repeats + "A=1/0;" + braces,
+            repeats + "stop;" + braces, repeats + "give 1;" + braces};
+        int[] outcomes = {-2, -4, -2, 1, 2};
+        for (int i = 0; i < texts.length; i++) {
+            on.script(texts[i]);
+            for (int n = 0; n < 30; n++) {
+                due.is("run() " + n + " of " + texts[i], on.x.run(0, 400), outcomes[i]);
+            }
+            Texts.read(on.x, "let n=0;" + repeats.replace('2', '1') + "repeat 2{n=n+1;}" + braces + "give n*10+(1+(1+(1+(1+C[1]))));");
+            on.givesNow("behind " + texts[i], 31);
+        }
     }
 
     private void localsAreNew() {

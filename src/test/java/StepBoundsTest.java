@@ -68,6 +68,9 @@ public final class StepBoundsTest {
         steps("if 1{ A=1; }A=2;", 0, 6, 12);
         steps("if 0{ A=1; }A=2;", 0, 12);
         steps("if 0{}else{ A=1;A=2;}", 0, 12, 16);
+        steps("if 1{ A=1; }else{ A=2; }A=3;", 0, 6, 24);
+        steps("if 0{ A=1; }else{ A=2; }A=3;", 0, 18, 24);
+        steps("if 1{}else{A=1;}", 0);
         steps("if 1{if 1{if 1{}}}", 0, 5, 10);
     }
 
@@ -312,6 +315,10 @@ public final class StepBoundsTest {
         on.gives("let n=0;repeat 3{repeat n{n=n+1;}n=n+1;}give n;", 7);
         on.gives("let n=0;repeat 2{repeat 2{repeat 2{n=n+1;}n=n+10;}n=n+100;}give n;", 248);
         on.gives("let n=0;repeat 2{repeat 0{n=n+1;}repeat 3{n=n+10;}}give n;", 60);
+        String twenty = Texts.times("repeat 1{", 19) + "repeat 3{A=A+1;}" + Texts.times("}", 19);
+        on.gives(twenty + "give A;", 7);
+        due.is("taken() of 20 in each other", on.x.taken(), 19 * 2 + 1 + 3 * 3 + 1);
+        on.gives(twenty + twenty + "give A;", 10);
     }
 
     private void stops() {

@@ -37,6 +37,7 @@ public final class TextBoundsTest {
         test.signsOfAStat();
         test.signsInBraces();
         test.noSignsBetweenTwo();
+        test.bothAtOnce();
         test.textFaultFirst();
         test.statsInAll();
         test.due.close();
@@ -268,6 +269,13 @@ public final class TextBoundsTest {
 
     private void oneComparison() {
         due.sentence("exp = sum [ ('<' | '~') sum ] (once at most)");
+        String[] heads = {"let a=", "A=", "give ", "if ", "repeat ", "C[", "C[0]=", "A=(", "A=C[", "A=-(", "C=row(", "A=whole("};
+        String[] tails = {";", ";", ";", "{}", "{}", "]=1;", ";", ");", "];", ");", ");", ");"};
+        for (int i = 0; i < heads.length; i++) {
+            on.reads(heads[i] + "1<2" + tails[i], 1);
+            on.reads(heads[i] + "1~2" + tails[i], 1);
+            breaks(heads[i] + "1<2~3" + tails[i], heads[i].length() + 3);
+        }
         on.gives("give (1<2)<(3<4);", 0);
         breaks("A=1<2<3;", 5);
         breaks("A=1<2~3;", 5);
@@ -461,6 +469,18 @@ public final class TextBoundsTest {
         on.reads("A=C[-1]" + times("+C[-1]", 30) + ";", 1);
         on.reads("A=whole(1)" + times("+whole(1)", 30) + ";", 1);
         breaks("A=-1" + times("--1", 31) + ";", 94);
+    }
+
+    private void bothAtOnce() {
+        due.sentence("20 in each other at most; a stat has 30 at most (both at once, and all of it waits for what is innermost)");
+        String deep = times("2<1+1*C[", 10) + times("C[", 10);
+        on.reads("C[2]=" + deep + "0" + times("]", 20) + ";", 1);
+        on.script("C[C[0]+2]=" + deep.replaceFirst("2<", "") + "0" + times("]", 20) + ";give C[0]*100+C[1]*10+C[2];");
+        on.givesNow("the deepest text", 71);
+        due.is("taken()", on.x.taken(), 1 + 2 + 29 + 20 + 1 + 1 + 7);
+        String braces = times("if 1{", 19);
+        on.reads(braces + "A=1" + times("+1", 29) + "+(1);" + times("}", 19), 20);
+        breaks(braces + "A=1" + times("+1", 29) + "+(1+1);" + times("}", 19), 95 + 64);
     }
 
     private void textFaultFirst() {

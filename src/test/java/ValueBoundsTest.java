@@ -23,6 +23,9 @@ public final class ValueBoundsTest {
         test.noNumbersWithin();
         test.asTheLanguageDoes();
         test.tooSmallAndTooLarge();
+        test.endless();
+        test.greatestReal();
+        test.remainders();
         test.realOfWhole();
         test.wholeOfWhole();
         test.realInAny();
@@ -190,6 +193,67 @@ public final class ValueBoundsTest {
         }
         due.isReal("what is too large", large, Double.POSITIVE_INFINITY);
         due.isReal("what is too small", small, 0.0);
+    }
+
+    private void endless() {
+        due.sentence("REALS do as the language does (what has no end)");
+        double h = Double.POSITIVE_INFINITY;
+        double[] numbers = {h, -h, 2.5, -2.5, 0.0, -0.0};
+        String[] texts = {"h", "-h", "2.5", "-2.5", "0.0", "-0.0"};
+        for (int i = 0; i < numbers.length; i++) {
+            for (int j = 0; j < numbers.length; j++) {
+                double x = numbers[i];
+                double y = numbers[j];
+                String head = HUGE + "let x=" + texts[i] + ";let y=" + texts[j] + ";";
+                on.givesReal(head + "give x+y;", told(x + y));
+                on.givesReal(head + "give x-y;", told(x - y));
+                on.givesReal(head + "give x*y;", told(x * y));
+                on.givesReal(head + "give x/y;", told(x / y));
+                on.givesReal(head + "give x%y;", told(x % y));
+                on.gives(head + "give (x<y)*10+(x~y);", (x < y ? 10 : 0) + (x == y ? 1 : 0));
+                on.gives(head + "let z=x+y;give z~z;", x + y == x + y ? 1 : 0);
+                on.gives(head + "let z=x-y;give z~z;", x - y == x - y ? 1 : 0);
+                on.gives(head + "let z=x*y;give z~z;", x * y == x * y ? 1 : 0);
+                on.gives(head + "let z=x/y;give z~z;", x / y == x / y ? 1 : 0);
+                on.gives(head + "let z=x%y;give z~z;", x % y == x % y ? 1 : 0);
+            }
+        }
+    }
+
+    private void greatestReal() {
+        due.sentence("REALS do as the language does (the greatest that has an end, and the least)");
+        String max = "let p=2.0;repeat 9{p=p*p;}let e=1.0;repeat 52{e=e/2.0;}let m=(2.0-e)*p*(p/2.0);";
+        String min = "let p=2.0;repeat 9{p=p*p;}let t=1.0/p/p;repeat 50{t=t/2.0;}";
+        double m = Double.MAX_VALUE;
+        double t = Double.MIN_VALUE;
+        on.givesReal(max + "give m;", m);
+        on.givesReal(max + "give -m;", -m);
+        String[] exps = {"m-m", "m+-m", "m/m", "-m/m", "m*0.0", "m%2.5", "-m%2.5", "m%m", "m+m", "m*2.0", "m/0.5", "m%(m/2.0)", "m-1.0"};
+        double[] reals = {0.0, 0.0, 1.0, -1.0, 0.0, m % 2.5, -m % 2.5, 0.0, m + m, m * 2.0, m / 0.5, 0.0, m};
+        for (int i = 0; i < exps.length; i++) {
+            on.givesReal(max + "give " + exps[i] + ";", reals[i]);
+            on.gives(max + "let z=" + exps[i] + ";give z~z;", 1);
+            on.gives(max + "m=-m;let z=" + exps[i] + ";give z~z;", 1);
+        }
+        on.givesReal(min + "give t;", t);
+        on.givesReal(min + "give t/2.0;", 0.0);
+        on.givesReal(min + "give 2.5%t;", 2.5 % t);
+        on.givesReal(min + "give t*1.5%t;", 0.0);
+        on.givesReal(min + "give t%2.5;", t);
+    }
+
+    private void remainders() {
+        due.sentence("REALS do as the language does: % (the same, twice, four times as much, and next to it)");
+        String[] texts = {"0.5", "1.0", "2.0", "3.0", "4.0", "6.0", "8.0", "16.0", "1023.0", "1024.0", "1024.5", "1025.0"};
+        for (String left : texts) {
+            for (String right : texts) {
+                double x = Double.parseDouble(left);
+                double y = Double.parseDouble(right);
+                on.givesReal("give " + left + "%" + right + ";", x % y);
+                on.givesReal("give -" + left + "%" + right + ";", -x % y);
+                on.givesReal("give " + left + "%-" + right + ";", x % -y);
+            }
+        }
     }
 
     private void realOfWhole() {
