@@ -119,6 +119,12 @@ public final class CellBoundsTest {
             due.is("whole(): cut", x.whole(0, 1), v / 1000);
             due.is("holds()", x.holds(0, 1), 1);
         }
+        for (int i = 0; i < 300; i++) {
+            ScriptLanguage x = four();
+            int v = i * 7654321 - 1147483648;
+            x.cell(0, 1, v);
+            due.isReal("real() of " + v + " thousandths", x.real(0, 1), (double) v / 1000.0);
+        }
     }
 
     private void cellOfRows() {

@@ -33,6 +33,7 @@ public final class FaultBoundsTest {
         test.ofSeveral();
         test.fitsEverywhereElse();
         test.faultCalls();
+        test.ofTheLatestRead();
         test.lessTheFault();
         test.noneThen();
         test.due.close();
@@ -359,6 +360,24 @@ public final class FaultBoundsTest {
                 due.is("fault(" + what + ")", x.fault(what), Stage.OUTSIDE);
             }
         }
+    }
+
+    private void ofTheLatestRead() {
+        due.sentence("fault: Of the latest read()");
+        ScriptLanguage x = new ScriptLanguage();
+        x.column('A', 0, true);
+        Texts.read(x, "  B=1;");
+        x.column('B', 0, true);
+        x.cell(0, 0, 1);
+        x.run(0, 9);
+        Texts.put(x, "B=1;");
+        due.is("fault(0), until there is another", x.fault(0), 3);
+        due.is("fault(1), until there is another", x.fault(1), 2);
+        due.is("read()", x.read(), 1);
+        due.is("fault(0)", x.fault(0), 0);
+        due.is("fault(1)", x.fault(1), Stage.NONE);
+        x.column('C', 0, true);
+        due.is("fault(0) when the script is gone", x.fault(0), 0);
     }
 
     private void lessTheFault() {
